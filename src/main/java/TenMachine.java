@@ -355,9 +355,8 @@ public final class TenMachine {
                 word[ac] = shiftedWithoutSign(word[ac], places());
                 return DONE;
             case JFFO:
-                return findFirstOne();
             default:
-                return STOP;
+                return findFirstOne();
         }
     }
 
@@ -452,9 +451,8 @@ public final class TenMachine {
             case POP:
                 return pop();
             case POPJ:
-                return popToPc();
             default:
-                return STOP;
+                return popToPc();
         }
     }
 

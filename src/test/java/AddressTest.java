@@ -53,6 +53,8 @@ public final class AddressTest {
         b.put(400, Bench.instruction(0, 0, 1, 0, 400));
         one(b, Bench.instruction(MOVEI, 3, 1, 0, 400), 2).pc(Bench.PLACE).count(0).has(3, 0);
         one(b, Bench.instruction(XCT, 3, 1, 0, 309), 2).pc(Bench.PLACE).count(0);
+        one(b, Bench.instruction(0, 0, 1, 0, 308), 1).pc(Bench.PLACE + 1).count(1);
+        one(b, Bench.instruction(0, 0, 1, 0, 309), 2).pc(Bench.PLACE).count(0);
     }
 
     private static void executed() {
