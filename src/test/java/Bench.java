@@ -73,6 +73,15 @@ final class Bench {
         return put(PLACE, instruction(op, a, e)).go(PLACE, 1, true, 2).pc(PLACE).count(0);
     }
 
+    /** As does, but for an instruction that is told whole, with its I and X. */
+    Bench doesWord(long instruction) {
+        return put(PLACE, instruction).go(PLACE, 1, true, 0);
+    }
+
+    Bench faultsWord(long instruction) {
+        return put(PLACE, instruction).go(PLACE, 1, true, 2).pc(PLACE).count(0);
+    }
+
     Bench has(int a, long want) {
         due(name + " get(" + a + ")", machine.get(a), want);
         return this;
