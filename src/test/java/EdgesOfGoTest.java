@@ -22,6 +22,7 @@ public final class EdgesOfGoTest {
         lookOfOthers();
         latestGo();
         xctIsOne();
+        mostCalls();
         Bench.finish();
     }
 
@@ -188,5 +189,14 @@ public final class EdgesOfGoTest {
         b.put(71, Bench.instruction(AOJ, 3, 0)).put(51, Bench.instruction(JRST, 0, 50));
         b.go(50, 1, true, 0).count(1).pc(51).has(3, 1);
         b.go(50, 500, true, 0).count(500).pc(50).has(3, 251);
+    }
+
+    /** "An object is used for at most 512 calls after it has been made": the 512th answers as the first. */
+    private static void mostCalls() {
+        Bench b = loop("512 calls");
+        for (int calls = 2; calls < 510; calls++) {
+            b.go(0100, 500, false, 0);
+        }
+        b.pc(0100).has(3, 250 * 508);
     }
 }
